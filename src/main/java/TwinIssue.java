@@ -674,10 +674,10 @@ public final class TwinIssue {
             return is(WRITES_D) ? d : 0;
         }
 
-        boolean isForeseen() {
-            return op <= 23;
-        }
-
+        /**
+         * A BRANCH that is not foreseen counts as foreseen not to go: it always goes, and what is
+         * behind its SLOT is REDIRECTED just so.
+         */
         boolean isForeseenToGo() {
             return op <= 21 || (op <= 23 && j < 0);
         }
@@ -1266,8 +1266,7 @@ public final class TwinIssue {
             }
             if (done.is(BRANCH)) {
                 branchForeseenToGo = done.isForeseenToGo();
-                boolean asForeseen = branchForeseenToGo == executor.effect.goes;
-                branchRedirects = !done.isForeseen() || !asForeseen;
+                branchRedirects = branchForeseenToGo != executor.effect.goes;
             }
         }
 

@@ -13,6 +13,7 @@ public final class CallsTest {
         linesFrom();
         restart();
         restartKeepsMemory();
+        restartAtAnyTime();
         refusedRuns();
         sixtyThousand();
         cyclesInParts();
@@ -82,6 +83,10 @@ public final class CallsTest {
         Check.due("giveWord 0", x.giveWord(256, 0), true);
         Check.due("wordAt 0", x.wordAt(256), 0);
         Check.due("wordAt off", x.wordAt(32769), 0);
+        for (int address = 2048; address < 8192; address += 1024) {
+            Check.due("giveWord of a small word", x.giveWord(address, address / 2048), true);
+            Check.due("a small word", x.wordAt(address), address / 2048);
+        }
         x.runCycles(0);
         Check.due("behind a refused run", x.giveWord(8, 1), true);
         x.runCycles(1);
@@ -186,6 +191,58 @@ public final class CallsTest {
         bench.run(6);
         bench.event("restart", 0, 256, 2);
         Check.due("EEA", bench.x.specialOf(3), 8);
+    }
+
+    /** Behind restart() nothing tells that object from a new one with the same MEMORY. */
+    private static void restartAtAnyTime() {
+        for (int cycles = 1; cycles < 80; cycles++) {
+            Bench used = new Bench();
+            used.lines(0, 1).lines(9, 3);
+            layLongProgram(used);
+            used.run(cycles);
+            used.x.restart();
+            Bench fresh = new Bench();
+            layLongProgram(fresh);
+            for (int address = 32768; address < 32800; address += 4) {
+                fresh.x.giveWord(address, used.x.wordAt(address));
+            }
+            int first = cycles % 2 == 0 ? Code.nothing() : Code.abd(9, 1, 2, 3);
+            used.register(20, 32768).at(256).put(first);
+            fresh.at(256).put(first);
+            used.run(70);
+            fresh.run(70);
+            alike("restart behind " + cycles, used.x, fresh.x);
+        }
+    }
+
+    private static void layLongProgram(Bench bench) {
+        bench.register(20, 32768).at(256);
+        bench.put(Code.abd(9, 1, 2, 3), Code.abd(38, 0, 2, 3), Code.imm(28, 20, 20, 4));
+        bench.put(Code.abd(18, 0, 0, 0), Code.abd(34, 4, 1, 1), Code.jump(22, 3));
+        bench.put(Code.abd(8, 5, 1, 1), Code.abd(37, 6, 2, 3), Code.abd(41, 7, 0, 0));
+        bench.put(Code.read(8, 8), Code.abd(25, 0, 0, 0), Code.abd(36, 9, 2, 3)).halts();
+        bench.at(0).put(Code.imm(26, 10, 20, 0), Code.imm(26, 11, 0, 1));
+    }
+
+    private static void alike(String name, TwinIssue one, TwinIssue other) {
+        for (int register = 0; register < 32; register++) {
+            Check.due(name + " registerOf", one.registerOf(register), other.registerOf(register));
+        }
+        for (int special = 0; special < 12; special++) {
+            Check.due(name + " specialOf", one.specialOf(special), other.specialOf(special));
+        }
+        for (int which = 0; which < 9; which++) {
+            Check.due(name + " lookAt", one.lookAt(which), other.lookAt(which));
+            Check.due(name + " placeOf", one.placeOf(which), other.placeOf(which));
+        }
+        for (int event = 0; event < other.lookAt(1); event++) {
+            for (int what = 0; what < 8; what++) {
+                Check.due(name + " eventOf", one.eventOf(event, what), other.eventOf(event, what));
+            }
+            for (int what = 0; what < 3; what++) {
+                Check.due(name + " valueOf", one.valueOf(event, what), other.valueOf(event, what));
+            }
+        }
     }
 
     private static void refusedRuns() {

@@ -26,6 +26,8 @@ public final class FlowTest {
         codeAddresses();
         codeMaps();
         dataAddresses();
+        firstPlace();
+        otherAddresses();
         dataMaps();
         farPages();
         timerModes();
@@ -212,6 +214,11 @@ public final class FlowTest {
             bench.event(name, 2, one[0], one[1]);
             bench.special(name, 3, one[1] == 0 ? 32768 : one[0]);
         }
+        Bench first = new Bench();
+        first.at(0).put(Code.imm(10, 2, 0, 5)).at(256).put(Code.abd(24, 0, 0, 0), Code.nothing());
+        first.halts().run(20);
+        first.event("code at 0", 2, 0, 0);
+        first.register("code at 0", 2, 5);
         // Behind the last word of CODE.
         Bench end = new Bench();
         end.register(1, 32764).put(Code.abd(24, 0, 0, 1), Code.nothing()).halts().run(30);
@@ -285,6 +292,24 @@ public final class FlowTest {
                 bench.register(name, 2, -1);
             }
         }
+    }
+
+    private static void firstPlace() {
+        Bench bench = new Bench();
+        bench.at(0).put(0x01020304).at(256).put(Code.imm(26, 1, 0, 0), Code.imm(27, 2, 0, 0));
+        bench.halts().run(20);
+        bench.register("place 0", 1, 0x01020304);
+        bench.register("place 0", 2, 1);
+    }
+
+    /** EEA is written by exceptions of maps alone, whatever came before. */
+    private static void otherAddresses() {
+        Bench bench = new Bench();
+        bench.register(5, 77).put(Code.imm(26, 1, 0, 3)).halts();
+        bench.at(1536).put(Code.write(3, 5), Code.sys()).run(60);
+        bench.event("EEA", 0, 256, 6);
+        bench.event("EEA", 2, 1540, 12);
+        bench.special("EEA stays", 3, 77);
     }
 
     private static void dataMaps() {

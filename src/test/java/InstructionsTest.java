@@ -65,6 +65,8 @@ public final class InstructionsTest {
         three(0, MOST, 1, CARRY, LEAST, OVERFLOW);
         three(0, LEAST, LEAST, FLAG, 0, KEEP);
         three(0, -1, -1, 0, -2, CARRY);
+        three(0, -1, 0, CARRY, -1, 0);
+        three(0, -8, 7, CARRY, -1, 0);
         three(1, 5, 7, 0, -2, CARRY);
         three(1, 7, 5, KEEP, 2, FLAG);
         three(1, LEAST, 1, CARRY, MOST, OVERFLOW);
@@ -74,6 +76,9 @@ public final class InstructionsTest {
         low(10, 5, -7, 0, -2, 0);
         low(10, 7, -7, 0, 0, CARRY);
         low(10, 7, -1, 0, 6, CARRY);
+        low(10, 0, -1, CARRY, -1, 0);
+        low(35, 0, -2, CARRY, -1, 0);
+        three(34, -2, 0, CARRY, -1, 0);
         low(10, 0, 0x8000, CARRY, -32768, 0);
         low(10, LEAST, -1, 0, MOST, CARRY | OVERFLOW);
         low(10, MOST, 1, CARRY, LEAST, OVERFLOW);
@@ -181,6 +186,14 @@ public final class InstructionsTest {
         lost.special(11, 2, 7).put(Code.abd(41, 0, 0, 0)).run(30);
         lost.special("41 to register 0", 11, 0);
         Check.due("41 to register 0", lost.x.eventOf(1, 2), -1);
+        Bench low2 = new Bench();
+        low2.special(11, 1, 5).special(10, 2, 6).special(11, 3, -7).run(30);
+        low2.special("the high word alone", 10, 6);
+        low2.special("the low word alone", 11, -7);
+        Bench high = new Bench();
+        high.special(11, 1, 5).special(10, 2, -6).run(30);
+        high.special("the high word alone", 10, -6);
+        high.special("the low word stays", 11, 5);
         Bench zero = new Bench();
         zero.special(10, 1, -1).special(11, 2, -1).register(3, 1);
         zero.put(Code.abd(38, 0, 3, 3)).run(30);

@@ -9,6 +9,8 @@ public final class TimesTest {
         plain();
         registers();
         registersThatAreNotRead();
+        everyReader();
+        nothingElseWaits();
         loadsAndStores();
         multiplies();
         divides();
@@ -90,6 +92,61 @@ public final class TimesTest {
                 1, 3, 6, 1, 3, 6, 2, 4, 7);
         times("no write", words(Code.imm(28, 1, 8, 0), use(1)), 1, 3, 6, 1, 3, 6);
         times("no write", words(Code.abd(18, 1, 0, 0), use(1)), 1, 3, 6, 1, 3, 6);
+    }
+
+    /** Each instruction that can be in a PAIR, behind one that writes its A, its B or its D. */
+    private static void everyReader() {
+        int[] readA = {0, 1, 2, 3, 4, 5, 6, 7, 8, 9, 10, 11, 12, 13, 15, 16, 17, 18, 19, 26, 27, 28,
+            29, 34, 35, 36, 37, 38, 39, 40, 42, 43, 44, 45, 46, 47, 48, 49, 50, 51, 52, 53, 54, 57};
+        int[] readB = {0, 1, 2, 3, 4, 5, 6, 7, 8, 9, 18, 24, 25, 34, 36, 37, 38, 40, 46, 49};
+        int[] readD = {28, 29, 54};
+        for (int op = 0; op < 58; op++) {
+            if (op >= 30 && op <= 33 || op == 56) {
+                continue;
+            }
+            reader(Code.abd(op, 2, 1, 3), has(readA, op));
+            reader(Code.abd(op, 2, 3, 1), has(readB, op));
+            reader(Code.abd(op, 1, 3, 2), has(readD, op));
+            int after = has(new int[] {34, 35}, op) ? 4 : 3;
+            issuedAt("CARRY", Code.imm(10, 4, 0, 1), Code.abd(op, 2, 3, 5), after);
+            after = has(new int[] {22, 23, 46}, op) ? 4 : 3;
+            issuedAt("FLAG", Code.abd(18, 0, 0, 0), Code.abd(op, 2, 3, 5), after);
+        }
+    }
+
+    private static boolean has(int[] all, int one) {
+        for (int each : all) {
+            if (each == one) {
+                return true;
+            }
+        }
+        return false;
+    }
+
+    private static void reader(int word, boolean reads) {
+        issuedAt("reads", Code.imm(14, 1, 0, 1), word, reads ? 4 : 3);
+    }
+
+    private static void issuedAt(String name, int first, int second, int due) {
+        Bench bench = new Bench();
+        bench.put(first, second).halts().run(40);
+        Check.due(name + " " + (second >>> 26), bench.x.eventOf(1, 7), due);
+    }
+
+    /** What is kept of FLAG, CARRY, SUM and DIVIDEs holds up no register, nor one the other. */
+    private static void nothingElseWaits() {
+        int[] firsts = {Code.abd(18, 0, 0, 0), Code.abd(36, 1, 9, 9), Code.abd(38, 0, 9, 9),
+            Code.abd(9, 1, 9, 9), Code.abd(37, 1, 9, 9), Code.imm(26, 1, 8, 0)};
+        for (int first : firsts) {
+            for (int register = 2; register < 32; register++) {
+                issuedAt("not written", first, use(register), 3);
+            }
+        }
+        issuedAt("a DIVIDE is no sum", Code.abd(9, 1, 9, 9), Code.abd(41, 2, 0, 0), 3);
+        issuedAt("a sum is no DIVIDE", Code.abd(38, 0, 9, 9), Code.abd(9, 1, 9, 9), 4);
+        issuedAt("a sum is no CARRY", Code.abd(38, 0, 9, 9), Code.abd(34, 1, 0, 0), 3);
+        issuedAt("a sum is no FLAG", Code.abd(38, 0, 9, 9), Code.abd(46, 1, 0, 0), 3);
+        issuedAt("a DIVIDE is no CARRY", Code.abd(9, 1, 9, 9), Code.abd(35, 2, 0, 0), 3);
     }
 
     private static void loadsAndStores() {
@@ -246,6 +303,7 @@ public final class TimesTest {
         int[] words = {
             Code.jump(22, -20), Code.jump(23, 20), Code.jump(23, 0), Code.jump(23, 2),
             Code.abd(24, 0, 0, 5), Code.abd(25, 0, 0, 5), Code.abd(24, 0, 0, 6),
+            Code.abd(24, 31, 31, 5) | 2047, Code.abd(25, 31, 31, 5) | 2047,
         };
         for (int word : words) {
             Bench bench = code(word, N);
@@ -286,6 +344,10 @@ public final class TimesTest {
         odd.register(5, 402).halts().run(40);
         odd.times("not aligned", 0, 1, 3, 6, 1, 4, 7, 5, 7, 10, 11, 13, 16);
         odd.event("not aligned", 2, 402, 6);
+        // It reads nothing, not even what the word that was read last reads.
+        Bench behind = code(Code.abd(24, 0, 0, 5), Code.abd(9, 9, 9, 9));
+        behind.register(5, 402).halts().run(40);
+        behind.times("behind a DIVIDE", 0, 1, 3, 6, 1, 4, 24, 5, 7, 25, 26, 28, 31);
         Bench end = code(Code.abd(24, 0, 0, 5), N);
         end.register(5, 32764).halts().at(32764).put(N).run(40);
         end.times("behind CODE", 0, 1, 3, 6, 1, 4, 7, 5, 7, 10, 5, 7, 11, 12, 14, 17);
