@@ -45,7 +45,9 @@ public final class RandomRunsTest {
         new RandomProgram(seed, sets, real, literal).lay();
         String name = "seed " + seed;
         for (int part = 0; part < 12; part++) {
-            int n = part == 1 ? 700 : random.nextInt(2) == 0 ? 1 + random.nextInt(8) : 1 + random.nextInt(500);
+            // The second part is long enough for the set-up of maps.
+            int most = random.nextInt(2) == 0 ? 8 : 500;
+            int n = part == 1 ? 700 : 1 + random.nextInt(most);
             Check.due(name + " runCycles", real.runCycles(n), literal.runCycles(n));
             compareState(name + " at " + literal.cycles, real, literal);
             compareEvents(name, real, literal);
