@@ -34,6 +34,7 @@ public final class CallEdgesTest {
         linesFromCountOn();
         refusedCalls();
         restartFromAnywhere();
+        restartOfSets();
         restartLeavesMemory();
         restartTakesCallsAgain();
         restartEndsLines();
@@ -87,6 +88,7 @@ public final class CallEdgesTest {
 
     /** An object made with a number has so many sets: the last one is there, the next one is not. */
     private static void sets(int given, int due) {
+        pagesGoRound(given, due);
         Bench bench = new Bench(given);
         String name = "new TwinIssue(" + given + ")";
         Check.due(name + " lookAt(7)", bench.x.lookAt(7), due);
@@ -107,6 +109,15 @@ public final class CallEdgesTest {
             }
             register += 2;
         }
+    }
+
+    /** The page of that number is in set 0. */
+    private static void pagesGoRound(int given, int sets) {
+        Bench bench = new Bench(given);
+        bench.at(40960).put(77).at(256).register(6, sets * 1024);
+        bench.special(1280, 1, sets * 1024 + 1).special(1408, 2, 40960 + 4).special(0, 3, 9);
+        bench.put(Code.imm(26, 7, 6, 0)).halts().run(30);
+        bench.register("new TwinIssue(" + given + "), page " + sets, 7, 77);
     }
 
     private static void newObject() {
@@ -415,6 +426,29 @@ public final class CallEdgesTest {
         Check.due(name + ": events", used.x.runCycles(5), fresh.runCycles(5));
         Check.due(name + ": events", used.x.runCycles(8), fresh.runCycles(8));
         Check.due(name + ": then", Picture.of(used.x), Picture.of(fresh));
+    }
+
+    private static void restartOfSets() {
+        Check.sentence("Promise 5", "The STATE is as at first");
+        for (int sets = 16; sets <= 128; sets *= 2) {
+            Bench bench = new Bench(sets);
+            for (int row = 0; row < 4; row++) {
+                bench.special(1024 + 128 * row, 1 + 2 * row, -1);
+                bench.special(1024 + 128 * row + sets - 1, 2 + 2 * row, -1);
+            }
+            bench.run(60);
+            for (int row = 0; row < 4; row++) {
+                bench.special("the first set", 1024 + 128 * row, -1);
+                bench.special("the last set", 1024 + 128 * row + sets - 1, -1);
+            }
+            bench.x.restart();
+            for (int special = 1024; special < 1536; special++) {
+                if (special % 128 < 2 || special % 128 > sets - 3 && special % 128 < sets) {
+                    bench.special("behind restart()", special, 0);
+                }
+            }
+            Check.due("S", bench.x.lookAt(7), sets);
+        }
     }
 
     private static void restartLeavesMemory() {

@@ -39,6 +39,7 @@ public final class FlowEdgesTest {
         addressesOfExceptions();
         timerOnAndPending();
         linesOnAndMask();
+        heldInMask();
         timerAheadOfLines();
         modes();
         countGoesRound();
@@ -194,6 +195,11 @@ public final class FlowEdgesTest {
         codeIs(0, 0, SUPERVISOR, -4, 2);
         codeIs(0, 0, SUPERVISOR | DATA_MAPPED, 8208, 0);
         codeIs(0, 0, 0, 8208, 0);
+        Bench first = code(0, 0, SUPERVISOR, 0);
+        first.at(0).put(Code.imm(10, 9, 0, 55)).halt().run(60);
+        first.event("the first word", 5, 0, 0);
+        first.event("behind it", 6, 4, 0);
+        first.register("the first word", 9, 55);
         // Behind the last word of CODE there is no more.
         Bench end = code(0, 0, SUPERVISOR, 32760);
         end.at(32760).put(Code.nothing(), Code.nothing()).run(60);
@@ -357,6 +363,12 @@ public final class FlowEdgesTest {
             bench.special(3, 20, 77).special(0, 21, 513).put(one[0]).halts().run(60);
             bench.special("EEA behind " + Integer.toHexString(one[0]), 3, one[1]);
         }
+        // Behind one of a map, too.
+        Bench later = new Bench();
+        later.register(20, 77).put(Code.imm(26, 1, 0, 1)).halts();
+        later.at(1536).put(Code.write(3, 20), Code.sys()).run(60);
+        later.event("SYS behind another exception", 2, 1540, 12);
+        later.special("EEA behind SYS", 3, 77);
         for (int exception = 5; exception <= 8; exception += 3) {
             Bench bench = new Bench();
             bench.lines(0, 1).special(3, 20, 77).special(6, 21, 1).special(5, 22, PENDING);
@@ -399,6 +411,18 @@ public final class FlowEdgesTest {
                 bench.event(name, 2, 264, due ? 8 : 0);
                 bench.register(name, 3, due ? 0 : 1);
             }
+        }
+    }
+
+    private static void heldInMask() {
+        Check.sentence("ONE BY ONE", "one bit of STATUS is in MASK");
+        // Line 1 is up at RETIRED 2 alone; what is held of it is in STATUS, or is not.
+        for (int latch = 0; latch < 4; latch++) {
+            Bench bench = new Bench();
+            bench.lines(2, 2).lines(3, 0).special(9, 1, latch).special(6, 2, 2);
+            bench.put(Code.nothing(), Code.nothing()).special(0, 3, SUPERVISOR | LINES_ON);
+            bench.put(Code.nothing()).halts().run(50);
+            bench.event("LATCH " + latch, 5, 276, (latch & 2) != 0 ? 8 : 0);
         }
     }
 

@@ -136,6 +136,14 @@ public final class InstructionEdgesTest {
             {27, 65536, 2}, {27, -1, 2}, {51, 65535, 0}, {51, 65536, 2}, {52, 65534, 0},
             {52, 65536, 2}, {53, 65534, 0}, {53, 65536, 2}, {53, -2, 2},
         };
+        Bench ends = new Bench();
+        ends.at(0).put(0x01020304).at(65532).put(0x05060708).at(256).register(1, 65532);
+        ends.put(Code.imm(26, 2, 0, 0), Code.imm(27, 3, 0, 0), Code.imm(53, 4, 0, 0));
+        ends.put(Code.imm(26, 5, 1, 0), Code.imm(27, 6, 1, 3), Code.imm(53, 7, 1, 2)).halts().run(30);
+        int[] due = {0x01020304, 1, 0x0102, 0x05060708, 8, 0x0708};
+        for (int k = 0; k < due.length; k++) {
+            ends.register("the ends", 2 + k, due[k]);
+        }
         for (int[] one : loads) {
             Bench bench = new Bench();
             bench.register(1, one[1]).register(3, 99).put(Code.imm(one[0], 3, 1, 0)).halts().run(20);
@@ -857,6 +865,11 @@ public final class InstructionEdgesTest {
             bench.special("STATUS behind a WRITE of " + one[0], 7, one[1]);
             bench.special("LATCH", 9, 7);
         }
+        // Those that LATCH has not, too.
+        Bench other = new Bench();
+        other.lines(1, 7).lines(2, 0).special(9, 1, 7).special(9, 2, 1).special(7, 3, 3).halts();
+        other.run(40);
+        Check.due("HELD where LATCH is not", other.x.lookAt(8), 4);
     }
 
     private static void bitsThatStayZero() {

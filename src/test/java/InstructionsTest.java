@@ -1,4 +1,4 @@
-/** What each instruction does, by its number, with its edges (promise 6, seen by 7, 8, 9, 11, 12). */
+/** What each instruction does, by its number (promise 6, seen by 7, 8, 9, 11, 12). */
 public final class InstructionsTest {
     private static final int LEAST = Integer.MIN_VALUE;
     private static final int MOST = Integer.MAX_VALUE;
@@ -29,33 +29,12 @@ public final class InstructionsTest {
         Check.end("InstructionsTest");
     }
 
-    /**
-     * D = 3, A = 1 and B = 2 with these values; the bits of SR before and behind. All bits of SR
-     * besides SUPERVISOR and RANGE ON are given.
-     */
     private static void three(int op, int a, int b, int before, int due, int behind) {
-        run("op " + op, Code.abd(op, 3, 1, 2), new int[] {a, b}, before, due, behind);
+        OneWord.of(op, a, b).gives(before, due, behind);
     }
 
     private static void low(int op, int a, int low, int before, int due, int behind) {
-        run("op " + op, Code.imm(op, 3, 1, low), new int[] {a, 0}, before, due, behind);
-    }
-
-    private static void run(String op, int word, int[] ab, int before, int due, int behind) {
-        Bench bench = new Bench();
-        String name = op + " of " + ab[0] + ", " + ab[1] + " with " + before;
-        bench.special(0, 30, before | 1).register(1, ab[0]).register(2, ab[1]).register(3, 99);
-        bench.put(word).halts().run(60);
-        bench.register(name, 3, due);
-        bench.special(name, 0, behind | 1);
-        bench.event(name, 1, 260, 0);
-        Check.due(name + ": register written", bench.x.eventOf(1, 2), 3);
-        Check.due(name + ": value written", bench.x.valueOf(1, 1), due);
-        Check.due(name + ": no compare", bench.x.eventOf(1, 3), 0);
-        Check.due(name + ": no place", bench.x.eventOf(1, 4), -1);
-        Check.due(name + ": nothing stored", bench.x.valueOf(1, 2), 0);
-        bench.register(name, 1, ab[0]);
-        bench.register(name, 2, ab[1]);
+        OneWord.withLow(op, a, low).gives(before, due, behind);
     }
 
     private static void sums() {

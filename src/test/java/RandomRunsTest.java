@@ -1,6 +1,9 @@
 import java.util.Random;
 
-/** Random programs, compared with the document's machine in its literal form (all promises). */
+/**
+ * Random programs, compared with the document's machine in its literal form (all promises). An object
+ * is asked far more than 512 times here, which no promise covers; this program answers all alike.
+ */
 public final class RandomRunsTest {
     private static final int RUNS = 400;
     private static final int[] SETS = {16, 32, 64, 128};

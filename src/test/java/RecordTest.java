@@ -1,66 +1,11 @@
-/** THE RECORD keeps the last 256 EVENTS (promises 11, 12, 13). */
+/** What is told of EVENTS (promises 11, 12); how many are kept is in EventEdgesTest. */
 public final class RecordTest {
     private RecordTest() {
     }
 
     public static void main(String[] args) {
-        oneByOne();
-        inPairs();
         all();
         Check.end("RecordTest");
-    }
-
-    /** READs have an EVENT each six cycles. */
-    private static void oneByOne() {
-        TwinIssue x = new TwinIssue(16);
-        for (int k = 0; k < 270; k++) {
-            x.giveWord(256 + 4 * k, Code.read(1 + k % 31, 8));
-        }
-        x.runCycles(6 * 255);
-        kept("255", x, 255, 0);
-        x.runCycles(6);
-        kept("256", x, 256, 0);
-        x.runCycles(5);
-        kept("256 still", x, 256, 0);
-        x.runCycles(1);
-        kept("257", x, 257, 1);
-        x.runCycles(6 * 12);
-        kept("269", x, 269, 13);
-        for (int event = 13; event < 269; event++) {
-            Check.due("cycle", x.eventOf(event, 0), 6 * event + 6);
-            Check.due("exception", x.eventOf(event, 1), 0);
-            Check.due("register", x.eventOf(event, 2), 1 + event % 31);
-            Check.due("F", x.eventOf(event, 6), 6 * event + 1);
-            Check.due("T", x.eventOf(event, 7), 6 * event + 3);
-            Check.due("PC", x.valueOf(event, 0), 256 + 4 * event);
-            Check.due("value", x.valueOf(event, 1), event);
-        }
-    }
-
-    private static void inPairs() {
-        TwinIssue x = new TwinIssue(16);
-        x.runCycles(5 + 128);
-        kept("256", x, 256, 0);
-        x.runCycles(1);
-        kept("258", x, 258, 2);
-        x.restart();
-        kept("none", x, 0, -1);
-        x.runCycles(6);
-        kept("2", x, 2, 0);
-    }
-
-    private static void kept(String name, TwinIssue x, int events, int first) {
-        Check.due(name + ": events", x.lookAt(1), events);
-        Check.due(name + ": first kept", x.lookAt(4), first);
-        Check.due(name + ": too early", x.eventOf(first - 1, 0), -1);
-        Check.due(name + ": too early", x.valueOf(first - 1, 0), 0);
-        Check.due(name + ": too late", x.eventOf(events, 0), -1);
-        Check.due(name + ": too late", x.valueOf(events, 0), 0);
-        if (first >= 0) {
-            Check.due(name + ": first", x.eventOf(first, 0) > 0, true);
-            Check.due(name + ": first PC", x.valueOf(first, 0), 256 + 4 * first);
-            Check.due(name + ": last PC", x.valueOf(events - 1, 0), 252 + 4 * events);
-        }
     }
 
     /** An answer for each what, of a LOAD, a STORE, a COMPARE, a slot and an exception. */

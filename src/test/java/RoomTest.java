@@ -37,15 +37,14 @@ public final class RoomTest {
         x.giveWord(268, Code.nothing());
         for (int k = 0; k < 30; k++) {
             x.runCycles(2000);
-            for (int which = 0; which < 12; which++) {
-                x.eventOf(x.lookAt(4), which);
-                x.valueOf(x.lookAt(4), which);
-                x.specialOf(which);
-                x.registerOf(which);
-                x.placeOf(which);
-                x.lookAt(which);
-                x.wordAt(4 * which);
-            }
+            int which = k % 12;
+            x.eventOf(x.lookAt(4), which);
+            x.valueOf(x.lookAt(4), which);
+            x.specialOf(which);
+            x.registerOf(which);
+            x.placeOf(which);
+            x.lookAt(which);
+            x.wordAt(4 * which);
         }
     }
 }

@@ -16,6 +16,7 @@ public final class TimeEdgesTest {
     public static void main(String[] args) {
         firstOfAll();
         groups();
+        addressBehind();
         behindASlotThatIsForeseen();
         groupBefore();
         fiveAhead();
@@ -31,6 +32,7 @@ public final class TimeEdgesTest {
         delayOfMultiplies();
         delayOfDivides();
         registerZeroIsNotAwaited();
+        othersAreNotAwaited();
         flagIsAwaited();
         carryIsAwaited();
         lastWriterIsAwaited();
@@ -92,6 +94,19 @@ public final class TimeEdgesTest {
             Bench bench = code(N, Code.jump(20, to), N).halts().at(260 + 4 * to).put(N, N, N);
             bench.run(30).times("a group of one", 2, 2, 4, 7, 3, 5, 8, 3, 5, 8, 4, 6, 9);
         }
+    }
+
+    private static void addressBehind() {
+        Check.sentence("TIMES", "if it lies at the address behind that of i");
+        // The last of a page and the first of the next one, whose places are far from one another.
+        Bench bench = code();
+        bench.special(1024 + 5, 1, 5121).special(1152 + 5, 2, 8192 + 4);
+        bench.special(1024 + 6, 3, 6145).special(1152 + 6, 4, 16384 + 4);
+        bench.special(1, 10, 5120 + 1020).special(2, 11, 17).put(Code.back()).halts();
+        bench.at(8192 + 1020).put(N).at(16384).put(N, N).run(60);
+        bench.event("the last of a page", 7, 6140, 0);
+        bench.event("the first of a page", 8, 6144, 0);
+        bench.times("both", 7, 43, 45, 48, 43, 45, 48, 44, 46, 49);
     }
 
     private static void behindASlotThatIsForeseen() {
@@ -314,6 +329,21 @@ public final class TimeEdgesTest {
         awaits(Code.abd(9, 31, 9, 9), use(31), 21);
     }
 
+    private static void othersAreNotAwaited() {
+        Check.sentence("TIMES", "that it reads: T of the one that wrote it last");
+        int[] firsts = {Code.abd(18, 1, 9, 9), Code.abd(36, 1, 9, 9), Code.abd(38, 1, 9, 9),
+            Code.abd(9, 1, 9, 9), Code.abd(37, 1, 9, 9), Code.imm(26, 1, 8, 0)};
+        for (int first : firsts) {
+            for (int register = 2; register < 32; register++) {
+                second("register " + register, first, use(register), 3);
+            }
+        }
+        second("a DIVIDE is no sum", DIVIDE, TAKE_SUM, 3);
+        second("a sum is no DIVIDE", Code.abd(38, 0, 9, 9), DIVIDE, 4);
+        second("a STORE writes no register", Code.imm(28, 1, 8, 0), use(1), 3);
+        second("a COMPARE writes no register", Code.abd(18, 1, 0, 0), use(1), 3);
+    }
+
     private static void flagIsAwaited() {
         Check.sentence("TIMES", "and FLAG (22, 23, 46)");
         for (int op = 18; op < 20; op++) {
@@ -510,10 +540,20 @@ public final class TimeEdgesTest {
     private static void unreadable() {
         Check.sentence("TIMES", "reads and writes nothing and is none of the kinds above, whichever"
                 + " EXCEPTION it has");
-        Bench odd = code(Code.abd(24, 0, 0, 1), DIVIDE);
+        // Not what a DIVIDE reads that writes its own register, just ahead of it.
+        Bench odd = code(Code.abd(24, 0, 0, 1), Code.abd(9, 9, 9, 9));
         odd.register(1, 402).halts().run(60);
         odd.times("not aligned", 0, 1, 3, 6, 1, 4, 24, 5, 7, 25, 26, 28, 31);
         odd.event("not aligned", 2, 402, 6);
+        // Not a SINGLE one or a DIVIDE, whatever lies where it might be looked for.
+        for (int word : new int[] {Code.abd(9, 1, 9, 9), Code.abd(8, 1, 9, 9), Code.read(1, 0)}) {
+            unreadableAt(word, 0, 402, 6);
+            unreadableAt(word, 0, 32768, 2);
+            unreadableAt(word, 0, 65536, 2);
+            unreadableAt(word, 0, -4, 2);
+            unreadableAt(word, 5121, 5120 + 16, 4);
+            unreadableAt(word, 5120, 5120 + 16, 10);
+        }
         // PERIOD is such that PENDING is set by the last word of CODE, or is not.
         for (int period = 5; period < 7; period++) {
             Bench end = code();
@@ -522,6 +562,19 @@ public final class TimeEdgesTest {
             end.event("behind CODE", 5, 32768, period == 5 ? 5 : 2);
             end.times("behind CODE", 4, 25, 27, 30, 25, 27, 31, 32, 34, 37);
         }
+    }
+
+    /** It is come to by RETURN, with a map of its page that has a place, but lets nobody in. */
+    private static void unreadableAt(int word, int match, int address, int due) {
+        Bench bench = new Bench();
+        for (int place : new int[] {0, 400, 404, 5136, 8192 + 16, 32768, 65512, 65516, 65520, 65524,
+            65528, 65532}) {
+            bench.at(place).put(word);
+        }
+        bench.at(256).special(1024 + 5, 1, match).special(1152 + 5, 2, 8192);
+        bench.special(1, 3, address).special(2, 4, match == 0 ? 1 : 17).put(Code.back()).halts();
+        bench.run(60).event("unreadable", 5, address, due);
+        bench.times("unreadable", 5, 31, 33, 36, 37, 39, 42);
     }
 
     private static void asTheInstructionThere() {
