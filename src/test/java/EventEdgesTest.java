@@ -12,18 +12,25 @@ public final class EventEdgesTest {
     public static void main(String[] args) {
         notKept();
         noSuchEvent();
+        numbersOfEvents();
+        toldExceptions();
         noSuchWhat();
         noRegister();
         noCompare();
         noPlace();
         inSlotOrNot();
         noSuchValue();
+        toldPlaces();
+        toldValues();
         widthOfValues();
         firstKept();
         noSuchLook();
-        longestWay();
+        wayToTheFirst();
+        wayBetweenTwo();
         twoEvents();
         exceptionsAreCounted();
+        cyclesAreCounted();
+        entriesAreCounted();
         heldIsAsked();
         Check.end("EventEdgesTest");
     }
@@ -105,6 +112,49 @@ public final class EventEdgesTest {
         two.runCycles(6);
         Check.due("the last", two.eventOf(1, 0), 6);
         isNotKept(two, 2);
+    }
+
+    private static void numbersOfEvents() {
+        Check.sentence("Promise 11", "Of EVENT i, from 0 on (of all since the beginning or restart())");
+        TwinIssue x = reads(300, 6 * 300);
+        for (int event = 44; event < 300; event += 85) {
+            readIsKept(x, event);
+        }
+        isNotKept(x, 0);
+        isNotKept(x, 43);
+        x.restart();
+        isNotKept(x, 0);
+        isNotKept(x, 299);
+        x.runCycles(6 * 2);
+        readIsKept(x, 0);
+        readIsKept(x, 1);
+        isNotKept(x, 2);
+        isNotKept(x, 44);
+        isNotKept(x, 258);
+    }
+
+    private static void toldExceptions() {
+        Check.sentence("Promise 11", "1: 0 if it was RETIRED, else the exception");
+        int[][] words = {{Code.nothing(), 0}, {Code.imm(28, 1, 0, 8), 2}, {Code.imm(26, 1, 0, 1), 6},
+            {Code.abd(63, 0, 0, 0), 7}, {Code.abd(18, 10, 0, 0), 7}, {Code.sys(), 12}, {Code.trap(), 14}};
+        for (int[] one : words) {
+            first("word " + Integer.toHexString(one[0]), one[0], 1, one[1]);
+        }
+        int[][] bits = {{2, 5}, {4, 8}, {8, 9}, {16, 10}, {512, 11}, {0, 0}};
+        for (int[] one : bits) {
+            Bench bench = new Bench();
+            bench.lines(0, 1).special(6, 1, 1).special(5, 2, 1 << 28).special(0, 3, 1 | one[0]);
+            int word = one[0] == 512 ? Code.abd(9, 4, 0, 0) : Code.imm(26, 4, 0, 0);
+            bench.put(word).halts().run(60);
+            Check.due("with SR " + one[0], bench.x.eventOf(3, 1), one[1]);
+        }
+        // Pages that match, but have no bit of PLACE: 3 and 4.
+        for (int row = 0; row < 2; row++) {
+            Bench bench = new Bench();
+            bench.special(1024 + 256 * row, 1, 1).special(0, 2, row == 0 ? 17 : 9);
+            bench.put(Code.imm(26, 4, 0, 0)).halts().run(60);
+            Check.due("without a bit of PLACE", bench.x.eventOf(2, 1), row == 0 ? 4 : 3);
+        }
     }
 
     private static void noSuchWhat() {
@@ -223,6 +273,32 @@ public final class EventEdgesTest {
         Check.due("it wrote nothing", timer.x.eventOf(2, 2), -1);
     }
 
+    private static void toldPlaces() {
+        Check.sentence("Promise 12", "what 0: its PC");
+        int[] places = {0, 4, 32764, 32768, 65532, 65536, -4, LEAST, MOST, 1, 2, 3, -1};
+        for (int place : places) {
+            Bench bench = new Bench();
+            bench.register(1, place).put(Code.abd(24, 0, 0, 1), Code.nothing()).run(20);
+            Check.due("PC of event 0", bench.x.valueOf(0, 0), 256);
+            Check.due("PC of event 1", bench.x.valueOf(1, 0), 260);
+            Check.due("PC of event 2", bench.x.valueOf(2, 0), place);
+        }
+    }
+
+    private static void toldValues() {
+        Check.sentence("Promise 12", "1: what it wrote to a register");
+        for (int value : new int[] {0, 1, -1, LEAST, MOST, 1023}) {
+            for (int register : new int[] {1, 20, 31}) {
+                Bench bench = new Bench();
+                bench.register(2, value).put(Code.abd(3, register, 2, 0), Code.imm(10, register, 0, 5));
+                bench.run(6);
+                Check.due("what it wrote", bench.x.valueOf(0, 1), value);
+                Check.due("what the next one wrote", bench.x.valueOf(1, 1), 5);
+                bench.register("what is left", register, 5);
+            }
+        }
+    }
+
     private static void widthOfValues() {
         Check.sentence("Promise 12", "to MEMORY (a byte 0 .. 255, a half 0 .. 65535)");
         int[][] cases = {
@@ -271,7 +347,7 @@ public final class EventEdgesTest {
         Check.due("the last", x.lookAt(8), 0);
     }
 
-    private static void longestWay() {
+    private static void wayToTheFirst() {
         Check.sentence("Promise 13", "or from the beginning (cycle 0) to the first one, in cycles"
                 + " (0 without one)");
         TwinIssue x = new TwinIssue(16);
@@ -294,6 +370,10 @@ public final class EventEdgesTest {
         Check.due("the way that is not ended counts not", slow.x.lookAt(6), 23);
         slow.run(60);
         Check.due("a shorter one", slow.x.lookAt(6), 23);
+    }
+
+    private static void wayBetweenTwo() {
+        Check.sentence("Promise 13", "the longest way between two EVENTS that followed one another");
         // C is 6 and 7; then, behind the READ at 10, the DIVIDE at 10 + 23.
         Bench later = new Bench();
         later.put(Code.nothing(), Code.read(1, 0), Code.abd(9, 1, 2, 3), Code.nothing()).halts();
@@ -334,6 +414,40 @@ public final class EventEdgesTest {
         Check.due("two", bench.x.lookAt(2), 2);
         bench.x.restart();
         Check.due("behind restart()", bench.x.lookAt(2), 0);
+    }
+
+    private static void cyclesAreCounted() {
+        Check.sentence("Promise 13", "which 0: cycles");
+        TwinIssue x = new TwinIssue(16);
+        Check.due("at first", x.lookAt(0), 0);
+        int all = 0;
+        for (int n : new int[] {1, 5, 2000, 1, 1999}) {
+            x.runCycles(n);
+            all += n;
+            Check.due("behind " + n + " more", x.lookAt(0), all);
+        }
+        x.runCycles(0);
+        x.runCycles(2001);
+        Check.due("what is refused counts not", x.lookAt(0), all);
+        x.restart();
+        Check.due("behind restart()", x.lookAt(0), 0);
+    }
+
+    private static void entriesAreCounted() {
+        Check.sentence("Promise 13", "5: entries of lines");
+        TwinIssue x = new TwinIssue(16);
+        Check.due("at first", x.lookAt(5), 0);
+        x.linesFrom(-1, 1);
+        Check.due("what is refused counts not", x.lookAt(5), 0);
+        for (int k = 0; k < 34; k++) {
+            x.linesFrom(3 * k, 0);
+            x.linesFrom(3 * k, 1);
+            Check.due("behind entry " + k, x.lookAt(5), Math.min(k + 1, 32));
+        }
+        x.runCycles(100);
+        Check.due("later", x.lookAt(5), 32);
+        x.restart();
+        Check.due("behind restart()", x.lookAt(5), 0);
     }
 
     private static void heldIsAsked() {

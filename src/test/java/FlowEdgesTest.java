@@ -41,6 +41,8 @@ public final class FlowEdgesTest {
         linesOnAndMask();
         heldInMask();
         timerAheadOfLines();
+        pcGoesOn();
+        pcGoesRound();
         modes();
         countGoesRound();
         periods();
@@ -51,6 +53,7 @@ public final class FlowEdgesTest {
         retiredAhead();
         nothingIsDone();
         exceptionPlaces();
+        whatSrWas();
         bitsThatStay();
         handlers();
         oneEventEach();
@@ -451,6 +454,42 @@ public final class FlowEdgesTest {
         }
     }
 
+    private static void pcGoesOn() {
+        Check.sentence("ONE BY ONE", "PC goes on (behind a SLOT to TARGET); RETIRED is 1 more");
+        // All but the branch are SINGLE, so that no two of them have their EVENTS at once.
+        Bench bench = new Bench();
+        bench.put(Code.read(1, 8), Code.jump(20, 9), Code.read(2, 8)).halts();
+        bench.at(296).put(Code.read(3, 8), Code.sys()).at(3072).put(Code.read(4, 8)).run(5);
+        int[][] due = {{260, 1}, {264, 2}, {296, 3}, {300, 4}, {3072, 4}, {3076, 5}};
+        for (int event = 0; event < due.length; event++) {
+            for (int k = 0; k < 20 && bench.x.lookAt(1) <= event; k++) {
+                bench.run(1);
+            }
+            Check.due("PC behind event " + event, bench.x.placeOf(0), due[event][0]);
+            bench.special("RETIRED behind event " + event, 8, due[event][1]);
+        }
+    }
+
+    private static void pcGoesRound() {
+        Check.sentence("ONE BY ONE", "PC goes on");
+        // The last word of all addresses and the first; only maps give the last one a place.
+        int[][] cases = {{Code.imm(10, 9, 0, 7), 0, 7}, {Code.jump(21, 3), 8, 0}, {Code.jump(22, 3), 4, 0}};
+        for (int[] one : cases) {
+            boolean branch = one[0] != cases[0][0];
+            Bench bench = new Bench();
+            bench.special(1024 + 15, 1, 0xFFFFFC01).special(1152 + 15, 2, 8192 + 4);
+            bench.special(1024, 3, 1).special(1152, 4, 9216 + 4).special(1, 5, -4).special(2, 6, 17);
+            bench.put(Code.back()).halts().at(8192 + 1020).put(one[0]);
+            bench.at(9216).put(Code.read(8, 8), Code.read(8, 8), Code.read(8, 8)).run(100);
+            bench.event("the last word", 7, -4, 0);
+            bench.event("the first word", 8, 0, 0);
+            Check.due("its slot", bench.x.eventOf(8, 5), branch ? 1 : 0);
+            Check.due("the next", bench.x.valueOf(9, 0), branch ? one[1] : 4);
+            bench.register("what it wrote", 9, one[2]);
+            bench.register("PC + 8", 31, one[0] >>> 26 == 21 ? 4 : 0);
+        }
+    }
+
     /** COUNT and TIMER are written, and then so many READs are RETIRED. */
     private static Bench timer(int count, int timer, int retired) {
         Bench bench = new Bench();
@@ -690,6 +729,26 @@ public final class FlowEdgesTest {
             bench.event("in a slot", 3, 268, exception);
             bench.special("exception " + exception + " in a slot", 1, 264);
             bench.special("exception " + exception + " in a slot", 0, SUPERVISOR | IN_SLOT);
+        }
+    }
+
+    private static void whatSrWas() {
+        Check.sentence("EXCEPTION", "ESR is SR");
+        int[][] cases = {
+            {Code.imm(28, 1, 0, 0), 2, 0}, {Code.imm(26, 1, 0, 1), 6, 0}, {Code.abd(63, 0, 0, 0), 7, 0},
+            {Code.abd(9, 1, 0, 0), 11, 512}, {Code.sys(), 12, 0}, {Code.trap(), 14, 0},
+            {Code.imm(26, 1, 0, 0), 9, DATA_MAPPED}, {Code.nothing(), 5, TIMER_ON},
+            {Code.nothing(), 8, LINES_ON}, {Code.nothing(), 10, CODE_MAPPED},
+        };
+        for (int[] one : cases) {
+            for (int others : new int[] {0, FLAG, IN_SLOT, CARRY, OVERFLOW, SUPERVISOR, 481}) {
+                int sr = one[2] | others;
+                Bench bench = new Bench();
+                bench.lines(0, 1).special(6, 1, 1).special(5, 2, PENDING).special(2, 3, -1);
+                bench.special(0, 4, sr).put(one[0]).halts().run(60);
+                bench.event("SR " + sr, 4, 272, one[1]);
+                bench.special("ESR", 2, sr);
+            }
         }
     }
 

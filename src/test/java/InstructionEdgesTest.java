@@ -52,6 +52,7 @@ public final class InstructionEdgesTest {
         overflowOfProducts();
         overflowOfQuotients();
         rangeOn();
+        bitsOfJ();
         targets();
         jumpsThatStay();
         callsWriteLink();
@@ -65,6 +66,9 @@ public final class InstructionEdgesTest {
         otherWords();
         branchesInSlots();
         slotBitIsButABit();
+        allBitsAreWritten();
+        returns();
+        nothing();
         Check.end("InstructionEdgesTest");
     }
 
@@ -722,6 +726,19 @@ public final class InstructionEdgesTest {
 
     // ---- BRANCHES
 
+    private static void bitsOfJ() {
+        Check.sentence("INSTRUCTIONS", "J its lowest 26 bits with their sign");
+        int[][] cases = {{0, 256}, {1, 260}, {0x1FFFFFF, 256 + 134217724}, {0x2000000, 256 - 134217728},
+            {0x3FFFFFF, 252}, {0x3FFFFC0, 0}, {0x3FFFFBF, -4}};
+        for (int[] one : cases) {
+            for (int op : new int[] {20, 21, 23}) {
+                Bench bench = new Bench();
+                bench.put(op << 26 | one[0], Code.abd(9, 1, 2, 0)).run(6);
+                Check.due("TARGET of " + op + " with " + one[0], bench.x.placeOf(2), one[1]);
+            }
+        }
+    }
+
     private static void targets() {
         Check.sentence("INSTRUCTIONS", "TARGET is PC + 4 * J");
         int[] all = {0, 1, 2, 3, -1, -63, -64, -65, (1 << 25) - 1, -(1 << 25)};
@@ -977,5 +994,64 @@ public final class InstructionEdgesTest {
         back.special("SR", 0, 65);
         back.run(5);
         back.event("a branch there", 3, 512, 0);
+    }
+
+    private static void allBitsAreWritten() {
+        Check.sentence("INSTRUCTIONS", "(A WRITE of SR, ESR and RETURN write all their bits, also IN SLOT,"
+                + " FLAG, CARRY");
+        int all = 1 | FLAG | 64 | CARRY | OVERFLOW;
+        for (int bits = 0; bits < 1024; bits++) {
+            Bench write = new Bench();
+            write.special(0, 1, all).special(0, 2, bits).run(12);
+            write.special("WRITE of SR", 0, bits);
+            write.special("WRITE of SR leaves ESR", 2, 0);
+            Bench kept = new Bench();
+            kept.special(2, 1, all).special(2, 2, bits).run(12);
+            kept.special("WRITE of ESR", 2, bits);
+            kept.special("WRITE of ESR leaves SR", 0, 1);
+            Bench back = new Bench();
+            back.special(2, 1, bits).special(0, 2, all).put(Code.back()).run(18);
+            back.special("RETURN with " + bits, 0, bits);
+            back.special("RETURN leaves ESR", 2, bits);
+        }
+    }
+
+    private static void returns() {
+        Check.sentence("INSTRUCTIONS", "33 RETURN: SR is ESR, PC is EPC, not in a SLOT");
+        int[] places = {0, 4, 256, 264, 32764, 32768, 65536, -4, LEAST, MOST, 1, 2, 3, -1};
+        for (int place : places) {
+            Bench bench = new Bench();
+            bench.special(1, 1, place).special(2, 2, 65).put(Code.back()).run(18);
+            Check.due("PC", bench.x.placeOf(0), place);
+            Check.due("no branch", bench.x.placeOf(1), 0);
+            Check.due("no TARGET", bench.x.placeOf(2), 0);
+            bench.special("EPC stays", 1, place);
+            Check.due("the next is there", bench.run(6).x.valueOf(3, 0), place);
+            Check.due("and in no slot", bench.x.eventOf(3, 5), 0);
+        }
+    }
+
+    private static void nothing() {
+        Check.sentence("INSTRUCTIONS", "55 nothing");
+        for (int rest : new int[] {0, 0x3FFFFFF, 0x20F0000}) {
+            Bench bench = new Bench();
+            bench.special(0, 1, 1 | ALL | 512).special(11, 2, -5).special(10, 3, 9);
+            for (int register = 4; register < 32; register++) {
+                bench.register(register, MOST - register);
+            }
+            bench.put(55 << 26 | rest).halt().run(40);
+            for (int register = 4; register < 32; register++) {
+                bench.register("nothing", register, MOST - register);
+            }
+            bench.event("nothing", 3, 268, 0);
+            bench.special("SR", 0, 1 | ALL | 512);
+            bench.special("the high word of SUM", 10, 9);
+            bench.special("the low word of SUM", 11, -5);
+            Check.due("no register", bench.x.eventOf(3, 2), -1);
+            Check.due("no COMPARE", bench.x.eventOf(3, 3), 0);
+            Check.due("no place", bench.x.eventOf(3, 4), -1);
+            Check.due("no value", bench.x.valueOf(3, 1), 0);
+            Check.due("nothing stored", bench.x.valueOf(3, 2), 0);
+        }
     }
 }

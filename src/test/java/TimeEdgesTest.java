@@ -17,11 +17,13 @@ public final class TimeEdgesTest {
         firstOfAll();
         groups();
         addressBehind();
+        redirectedBeginsAGroup();
         behindASlotThatIsForeseen();
         groupBefore();
         fiveAhead();
         foreseenBelowZero();
         notForeseen();
+        wentOtherwise();
         twoBehindTheBranch();
         behindExceptions();
         behindSingles();
@@ -36,16 +38,23 @@ public final class TimeEdgesTest {
         flagIsAwaited();
         carryIsAwaited();
         lastWriterIsAwaited();
+        retiredWritersAreAwaited();
         dividesAfterDivides();
         sumsAreAwaited();
         singlesAwaitTheOneBefore();
+        singlesWithAnyException();
         pairs();
         pairsWithRegisters();
+        pairsWithFlagAndCarry();
+        pairsWithSum();
         eventsOfSlowOnes();
         eventsInOrder();
         eventsOfExceptions();
         unreadable();
+        unreadableForAnyCause();
         asTheInstructionThere();
+        slowOnesWithExceptions();
+        writtenForNobody();
         Check.end("TimeEdgesTest");
     }
 
@@ -107,6 +116,21 @@ public final class TimeEdgesTest {
         bench.event("the last of a page", 7, 6140, 0);
         bench.event("the first of a page", 8, 6144, 0);
         bench.times("both", 7, 43, 45, 48, 43, 45, 48, 44, 46, 49);
+    }
+
+    private static void redirectedBeginsAGroup() {
+        Check.sentence("TIMES", "is not REDIRECTED");
+        // Each time it lies just behind one that begins a group.
+        times("behind a SINGLE one", words(Code.read(1, 0), N, N, N),
+                1, 3, 6, 7, 9, 12, 7, 9, 12, 8, 10, 13);
+        Bench slot = code(N, Code.abd(24, 0, 0, 4), N, N, N, N);
+        slot.register(4, 268).halts().run(40);
+        slot.times("behind a slot", 2, 2, 4, 7, 5, 7, 10, 5, 7, 10, 6, 8, 11);
+        Bench exception = code(N, Code.abd(24, 0, 0, 4), N);
+        exception.register(4, 3068).at(3068).put(Code.sys(), N, N, N).run(40);
+        exception.event("an exception", 3, 3068, 12);
+        exception.event("behind an exception", 4, 3072, 0);
+        exception.times("behind an exception", 3, 5, 8, 11, 12, 14, 17, 12, 14, 17, 13, 15, 18);
     }
 
     private static void behindASlotThatIsForeseen() {
@@ -192,6 +216,27 @@ public final class TimeEdgesTest {
             behindSlot("to 0", Code.abd(op, 0, 0, 0), true);
             // Their bits are no J.
             behindSlot("with all other bits", Code.abd(op, 31, 31, 5) | 2047, true);
+        }
+    }
+
+    private static void wentOtherwise() {
+        Check.sentence("TIMES", "The instruction behind a SLOT is REDIRECTED if its BRANCH r was not"
+                + " foreseen, or went otherwise");
+        for (int op = 20; op < 26; op++) {
+            for (int flag = 0; flag <= 32; flag += 32) {
+                for (int j : new int[] {-3, 0, 3}) {
+                    boolean foreseen = op < 22 || j < 0;
+                    boolean goes = op == 22 ? flag != 0 : op != 23 || flag == 0;
+                    boolean redirected = op > 23 || foreseen != goes;
+                    int branch = op > 23 ? Code.abd(op, 0, 0, 5) : Code.jump(op, j);
+                    Bench bench = code();
+                    bench.special(0, 2, 1 | flag).put(branch, N, N, N).halts().at(400).put(N, N);
+                    bench.at(248).put(N, N).run(40);
+                    String name = op + " with J " + j + " and FLAG " + flag;
+                    bench.times(name, 1, 7, 9, 12, 7, 10, 13);
+                    Check.due(name + ": F behind the slot", bench.x.eventOf(3, 6), redirected ? 11 : 8);
+                }
+            }
         }
     }
 
@@ -386,6 +431,21 @@ public final class TimeEdgesTest {
                 1, 3, 23, 1, 3, 23, 2, 4, 24);
     }
 
+    private static void retiredWritersAreAwaited() {
+        Check.sentence("TIMES", "of those that were RETIRED, and its DELAY, or more");
+        // Behind the exception, at 256 * e, the register that it has not written is read at once.
+        int[][] cases = {{BAD_LOAD, 6, 3}, {Code.abd(8, 1, 4, 4), 11, 5}, {Code.abd(9, 1, 9, 0), 11, 20},
+            {Code.abd(0, 1, 4, 4), 11, 3}};
+        for (int[] one : cases) {
+            Bench bench = code();
+            bench.register(4, 1 << 30).special(0, 2, 513).put(one[0]).halts();
+            bench.at(256 * one[1]).put(use(1), use(1)).run(60);
+            int c = 9 + one[2];
+            bench.event("not RETIRED", 1, 260, one[1]);
+            bench.times("not RETIRED", 1, 7, 9, c, c + 1, c + 3, c + 6, c + 1, c + 3, c + 6);
+        }
+    }
+
     private static void dividesAfterDivides() {
         Check.sentence("TIMES", "A DIVIDE is also 18 or more behind T of the DIVIDE before");
         for (int first : new int[] {9, 37}) {
@@ -433,6 +493,28 @@ public final class TimeEdgesTest {
             user.special(0, 2, 0).put(N, single).halts().run(60);
             user.times("as a user", 1, 7, 9, 12, 7, 13, 16, 17, 19, 22);
             user.event("as a user", 2, 264, 7);
+        }
+    }
+
+    private static void singlesWithAnyException() {
+        Check.sentence("TIMES", "SINGLE are 30, 31, 32, 33, 56 (whichever EXCEPTION they have)");
+        int[] singles = {Code.read(1, 0), Code.write(6, 0), Code.sys(), Code.back(), Code.trap()};
+        for (int single : singles) {
+            String name = Integer.toHexString(single);
+            // Exceptions 5 and 8, at the second of a group that is fetched in 13.
+            for (int exception = 5; exception <= 8; exception += 3) {
+                boolean timer = exception == 5;
+                Bench bench = code();
+                bench.lines(3, 1).special(timer ? 5 : 6, 1, timer ? 1 << 29 | 3 : 1);
+                bench.special(0, 2, timer ? 3 : 5).put(N, single).halts().run(60);
+                bench.event(name, 3, 268, exception);
+                bench.times(name, 2, 13, 15, 18, 13, 19, 22, 23, 25, 28);
+            }
+            // As a user, and in a slot.
+            Bench user = code();
+            user.special(0, 2, 0).put(N, single).halts().run(60);
+            user.times(name + " of a user", 1, 7, 9, 12, 7, 13, 16, 17, 19, 22);
+            times(name + " in a slot", words(Code.jump(20, 8), single), 1, 3, 6, 1, 7, 10, 11, 13, 16);
         }
     }
 
@@ -497,6 +579,40 @@ public final class TimeEdgesTest {
         }
     }
 
+    private static void pairsWithFlagAndCarry() {
+        Check.sentence("TIMES", "no FLAG and no CARRY that the first writes");
+        int[] flagReaders = {Code.jump(22, 8), Code.jump(23, 8), Code.abd(46, 2, 0, 0)};
+        int[] carryReaders = {Code.abd(34, 2, 0, 0), Code.abd(35, 2, 0, 0)};
+        for (int op = 0; op < 58; op++) {
+            if (has(op, 20, 21, 22, 23, 24, 25, 30, 31, 32, 33, 56)) {
+                continue;
+            }
+            int first = Code.abd(op, 1, 8, 8);
+            for (int reader : flagReaders) {
+                second("FLAG of " + op, first, reader, has(op, 18, 19) ? 4 : 3);
+            }
+            for (int reader : carryReaders) {
+                int due = has(op, 0, 1, 10, 34, 35) ? 4 : op == 36 ? 6 : op == 37 ? 21 : 3;
+                second("CARRY of " + op, first, reader, due);
+            }
+        }
+        // The other way round, what is read is written by the second.
+        second("46 and a COMPARE", Code.abd(46, 2, 0, 0), Code.abd(18, 0, 0, 0), 3);
+        second("34 and a SUB", Code.abd(34, 2, 0, 0), Code.abd(1, 3, 0, 0), 3);
+    }
+
+    private static void pairsWithSum() {
+        Check.sentence("TIMES", "not 41 behind 38, 39, 40");
+        for (int op : new int[] {38, 39, 40}) {
+            second("41 behind " + op, Code.abd(op, 0, 9, 9), TAKE_SUM, 6);
+            second(op + " behind 41", TAKE_SUM, Code.abd(op, 0, 9, 9), 3);
+        }
+        for (int op : new int[] {8, 36, 57, 0, 55}) {
+            second("41 behind " + op, Code.abd(op, 1, 9, 9), TAKE_SUM, 3);
+        }
+        second("41 behind 41", Code.abd(41, 1, 0, 0), TAKE_SUM, 3);
+    }
+
     /** When the second of two is issued. */
     private static void second(String name, int first, int second, int due) {
         Bench bench = code(first, second);
@@ -545,6 +661,18 @@ public final class TimeEdgesTest {
         odd.register(1, 402).halts().run(60);
         odd.times("not aligned", 0, 1, 3, 6, 1, 4, 24, 5, 7, 25, 26, 28, 31);
         odd.event("not aligned", 2, 402, 6);
+        // PERIOD is such that PENDING is set by the last word of CODE, or is not.
+        for (int period = 5; period < 7; period++) {
+            Bench end = code();
+            end.special(5, 1, 1 << 29 | period).special(1, 2, 32764).special(2, 3, 3);
+            end.put(Code.back()).halts().at(32764).put(N).run(60);
+            end.event("behind CODE", 5, 32768, period == 5 ? 5 : 2);
+            end.times("behind CODE", 4, 25, 27, 30, 25, 27, 31, 32, 34, 37);
+        }
+    }
+
+    private static void unreadableForAnyCause() {
+        Check.sentence("TIMES", "An instruction that can not be read (for what 2, 4, 6, 10 of code are)");
         // Not a SINGLE one or a DIVIDE, whatever lies where it might be looked for.
         for (int word : new int[] {Code.abd(9, 1, 9, 9), Code.abd(8, 1, 9, 9), Code.read(1, 0)}) {
             unreadableAt(word, 0, 402, 6);
@@ -553,14 +681,6 @@ public final class TimeEdgesTest {
             unreadableAt(word, 0, -4, 2);
             unreadableAt(word, 5121, 5120 + 16, 4);
             unreadableAt(word, 5120, 5120 + 16, 10);
-        }
-        // PERIOD is such that PENDING is set by the last word of CODE, or is not.
-        for (int period = 5; period < 7; period++) {
-            Bench end = code();
-            end.special(5, 1, 1 << 29 | period).special(1, 2, 32764).special(2, 3, 3);
-            end.put(Code.back()).halts().at(32764).put(N).run(60);
-            end.event("behind CODE", 5, 32768, period == 5 ? 5 : 2);
-            end.times("behind CODE", 4, 25, 27, 30, 25, 27, 31, 32, 34, 37);
         }
     }
 
@@ -599,7 +719,10 @@ public final class TimeEdgesTest {
                 bench.times(name, 2, 13, 15, 18, 13, one[1], one[2], one[2] + 1, one[2] + 3, one[2] + 6);
             }
         }
-        // The 5 of a MULTIPLY and the 20 of a DIVIDE with exception 11, too.
+    }
+
+    private static void slowOnesWithExceptions() {
+        Check.sentence("TIMES", "(the 5 of a MULTIPLY and the 20 of a DIVIDE, too)");
         int[][] slow = {{Code.abd(8, 3, 1, 1), 5}, {Code.abd(57, 3, 1, 1) | 2047, 5},
             {Code.abd(9, 3, 1, 0), 20}};
         for (int[] one : slow) {
@@ -607,6 +730,28 @@ public final class TimeEdgesTest {
             bench.register(1, 1 << 30).special(0, 2, 513).put(one[0]).halts().run(60);
             bench.event("exception 11", 1, 260, 11);
             bench.times("exception 11", 1, 7, 9, 9 + one[1], 10 + one[1], 12 + one[1], 15 + one[1]);
+        }
+    }
+
+    private static void writtenForNobody() {
+        Check.sentence("TIMES", "what it would have written counts for nobody");
+        // PENDING is there at the first of the two; the handler reads what it would have written.
+        int[][] cases = {
+            {Code.abd(9, 1, 9, 9), use(1), 20}, {Code.abd(37, 1, 9, 9), Code.abd(34, 2, 0, 0), 20},
+            {Code.abd(37, 1, 9, 9), Code.abd(9, 2, 9, 9), 20}, {Code.abd(38, 0, 9, 9), TAKE_SUM, 5},
+            {Code.abd(36, 1, 9, 9), Code.abd(35, 2, 0, 0), 5}, {Code.imm(26, 1, 8, 0), use(1), 3},
+            {Code.abd(18, 0, 0, 0), Code.abd(46, 2, 0, 0), 3}, {Code.jump(21, 9), use(31), 3},
+        };
+        for (int[] one : cases) {
+            Bench bench = code();
+            bench.special(5, 1, 1 << 28).special(0, 2, 3).put(one[0], N).halts();
+            bench.at(1280).put(one[1], N).run(80);
+            int c = 15 + one[2];
+            String name = Integer.toHexString(one[0]);
+            bench.event(name, 2, 264, 5);
+            bench.times(name, 2, 13, 15, c);
+            Check.due(name + ": F behind it", bench.x.eventOf(3, 6), c + 1);
+            Check.due(name + ": T behind it", bench.x.eventOf(3, 7), c + 3);
         }
     }
 }
